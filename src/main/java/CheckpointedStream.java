@@ -660,7 +660,8 @@ public final class CheckpointedStream {
 
         void copyAll(Tally other) {
             for (int key = 0; key < KEYS; key++) {
-                copyKey(other, key);
+                counts[key] = other.counts[key];
+                sums[key] = other.sums[key];
             }
         }
 

@@ -168,6 +168,12 @@ final class CheckpointsTest {
         CHECK.no("hasSent(0)", x.hasSent(0));
         CHECK.same("its offset is not kept", x.offset(0), 1);
         CHECK.same("its state is not kept", x.sum(1), 30);
+        x.pump(1);
+        x.beginCheckpoint();
+        Streams.sendAllBarriers(x);
+        x.pump(1);
+        CHECK.same("the next transaction has the event once", x.commit(0), 1);
+        CHECK.same("and its value once", x.committedSum(1), 80);
 
         CheckpointedStream first = new CheckpointedStream();
         first.append(0, 0, 5);

@@ -5,7 +5,9 @@ final class WorkersTest {
     public static void main(String[] args) {
         takeEvents();
         takeRefuses();
+        takeFromEachFullChannel();
         takeBarriers();
+        takeBarriersInAnyOrder();
         lastBarrierCompletes();
         takeAbandonedBarrier();
         pumpCounts();
@@ -58,6 +60,41 @@ final class WorkersTest {
         x.read(3);
         CHECK.same("take of the fourth worker", x.take(3, 3), 1);
         CHECK.refusedPast("take of a fifth worker", 4, x, w -> x.take(w, 3));
+    }
+
+    private static void takeFromEachFullChannel() {
+        for (int partition = 0; partition < 4; partition++) {
+            for (int worker = 0; worker < 4; worker++) {
+                CheckpointedStream x = new CheckpointedStream();
+                x.rescale(4);
+                for (int i = 0; i < 8; i++) {
+                    x.append(partition, 2 * worker + 8 * (i % 4), i + 1);
+                }
+                Streams.read(x, partition, 8);
+                CHECK.same("a full channel", x.queued(partition, worker), 8);
+                for (int i = 0; i < 8; i++) {
+                    CHECK.same("its first", x.itemAt(partition, worker, 0) % 1000, i + 1);
+                    CHECK.same("taken in order", x.take(worker, partition), 1 + i / 4);
+                }
+                CHECK.same("an empty channel", x.queued(partition, worker), 0);
+            }
+        }
+    }
+
+    private static void takeBarriersInAnyOrder() {
+        for (int last = 0; last < 4; last++) {
+            CheckpointedStream x = new CheckpointedStream();
+            x.beginCheckpoint();
+            Streams.sendAllBarriers(x);
+            for (int i = 1; i <= 4; i++) {
+                CHECK.same("sealed by " + (i - 1), x.sealed(1), CheckpointedStream.NONE);
+                x.take(1, (last + i) % 4);
+            }
+            CHECK.same("sealed by four", x.sealed(1), 1);
+            CHECK.same("the other worker has not sealed", x.complete(), CheckpointedStream.NONE);
+            Streams.takeFromAll(x, 0);
+            CHECK.same("complete by both", x.complete(), 1);
+        }
     }
 
     private static void takeBarriers() {
