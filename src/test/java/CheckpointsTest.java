@@ -1,288 +1,219 @@
-/** Promises 8 to 11: beginCheckpoint, abandon, crash, rescale. */
+/** Promises 25 to 29: underWay, complete, hasSent, keptOffset, keptSum. */
 final class CheckpointsTest {
     private static final Check CHECK = new Check("CheckpointsTest");
+    private static final Looks LOOKS = new Looks(CHECK);
 
     public static void main(String[] args) {
-        beginCheckpoint();
-        beginRefusesWhileSealed();
-        abandon();
-        abandonGivesBackTheSealed();
-        abandonKeepsTheLatestComplete();
-        crashWithoutCheckpoint();
-        crashCommitsTheSealed();
-        crashLosesWhatIsUnderWay();
-        crashKeepsNumbers();
-        rescaleCountsGroups();
-        rescaleStartsAgain();
-        rescaleRefuses();
-        eachEventCountsOnce();
+        CHECK.sentence("underWay: the number of the checkpoint", CheckpointsTest::numberUnderWay);
+        CHECK.sentence("underWay: NONE if there is none", CheckpointsTest::noneUnderWay);
+        CHECK.sentence("underWay: changes nothing", () -> LOOKS.changesNothing(CheckpointedStream::underWay));
+        CHECK.sentence("complete: the number of the latest", CheckpointsTest::latestComplete);
+        CHECK.sentence("complete: NONE if there is none", CheckpointsTest::noneComplete);
+        CHECK.sentence("complete: changes nothing", () -> LOOKS.changesNothing(CheckpointedStream::complete));
+        CHECK.sentence("hasSent: of that reader, for the one under way", CheckpointsTest::sentByThatReader);
+        CHECK.sentence("hasSent: false if none is under way", CheckpointsTest::sentForNone);
+        CHECK.sentence("hasSent: no such partition", () -> LOOKS.noSuchPartition(CheckpointedStream::hasSent));
+        CHECK.sentence("hasSent: changes nothing", () -> LOOKS.changesNothing(x -> x.hasSent(0)));
+        CHECK.sentence("keptOffset: of that reader, for the latest complete one", CheckpointsTest::offsetKept);
+        CHECK.sentence("keptOffset: 0 if none is complete", CheckpointsTest::noOffsetKept);
+        CHECK.sentence("keptOffset: not that of one under way", CheckpointsTest::offsetUnderWay);
+        CHECK.sentence("keptOffset: no such partition", () -> LOOKS.noSuchPartition(CheckpointedStream::keptOffset));
+        CHECK.sentence("keptOffset: changes nothing", () -> LOOKS.changesNothing(x -> x.keptOffset(0)));
+        CHECK.sentence("keptSum: of that key, for the latest complete one", CheckpointsTest::sumKept);
+        CHECK.sentence("keptSum: 0 if none is complete", CheckpointsTest::noSumKept);
+        CHECK.sentence("keptSum: not that of one under way", CheckpointsTest::sumUnderWay);
+        CHECK.sentence("keptSum: no such key", () -> LOOKS.noSuchKey(CheckpointedStream::keptSum));
+        CHECK.sentence("keptSum: changes nothing", () -> LOOKS.changesNothing(x -> x.keptSum(1)));
         CHECK.finish();
     }
 
-    private static void beginCheckpoint() {
+    private static void numberUnderWay() {
         CheckpointedStream x = new CheckpointedStream();
-        CHECK.same("begin the first", x.beginCheckpoint(), 1);
-        CHECK.same("underWay", x.underWay(), 1);
-        CHECK.refused("begin while under way", Check.NOT_NOW, x, x::beginCheckpoint);
+        for (int number = 1; number <= 6; number++) {
+            x.beginCheckpoint();
+            CHECK.same("underWay", x.underWay(), number);
+            Streams.sendAllBarriers(x);
+            CHECK.same("underWay with barriers sent", x.underWay(), number);
+            x.crash();
+        }
+        CHECK.same("with an older complete one", Streams.withCheckpointUnderWay().underWay(), 2);
+    }
+
+    private static void noneUnderWay() {
+        CheckpointedStream x = new CheckpointedStream();
+        CHECK.same("new", x.underWay(), CheckpointedStream.NONE);
+        x.beginCheckpoint();
         x.abandon();
-        CHECK.same("begin the second", x.beginCheckpoint(), 2);
-        CHECK.same("none complete", x.complete(), CheckpointedStream.NONE);
-    }
-
-    private static void beginRefusesWhileSealed() {
-        CheckpointedStream x = Streams.withCompleteCheckpoint();
-        CHECK.refused("begin while two are sealed", Check.NOT_NOW, x, x::beginCheckpoint);
-        x.commit(0);
-        CHECK.refused("begin while the last is sealed", Check.NOT_NOW, x, x::beginCheckpoint);
-        x.commit(1);
-        CHECK.same("begin when none is sealed", x.beginCheckpoint(), 2);
-        CHECK.same("the complete one stays", x.complete(), 1);
-
-        CheckpointedStream other = Streams.withCompleteCheckpoint();
-        other.commit(1);
-        CHECK.refused("begin while the first is sealed", Check.NOT_NOW, other, other::beginCheckpoint);
-    }
-
-    private static void abandon() {
-        CheckpointedStream x = new CheckpointedStream();
-        CHECK.refused("abandon none", Check.NOT_NOW, x, x::abandon);
+        CHECK.same("abandoned", x.underWay(), CheckpointedStream.NONE);
+        Streams.completeCheckpoint(x);
+        CHECK.same("complete", x.underWay(), CheckpointedStream.NONE);
+        Streams.commitAll(x);
+        CHECK.same("committed", x.underWay(), CheckpointedStream.NONE);
         x.beginCheckpoint();
-        Streams.sendAllBarriers(x);
-        x.take(0, 0);
-        x.take(1, 3);
-        CHECK.same("abandon", x.abandon(), 1);
-        CHECK.same("none under way", x.underWay(), CheckpointedStream.NONE);
-        CHECK.no("worker 0 is free", x.isBlocked(0, 0));
-        CHECK.no("worker 1 is free", x.isBlocked(3, 1));
-        CHECK.same("barriers stay in channels", x.itemAt(1, 0, 0), -1);
-        CHECK.refused("abandon twice", Check.NOT_NOW, x, x::abandon);
-        CHECK.same("the number is not used again", x.beginCheckpoint(), 2);
-        CHECK.same("abandon the second", x.abandon(), 2);
-
-        CheckpointedStream complete = Streams.withCompleteCheckpoint();
-        CHECK.refused("abandon a complete one", Check.NOT_NOW, complete, complete::abandon);
-    }
-
-    private static void abandonGivesBackTheSealed() {
-        CheckpointedStream x = new CheckpointedStream();
-        x.append(0, 0, 5);
-        x.append(0, 0, 6);
-        x.append(1, 4, 7);
-        x.pump(1);
-        x.beginCheckpoint();
-        Streams.sendAllBarriers(x);
-        Streams.takeFromAll(x, 0);
-        x.read(0);
-        x.take(0, 0);
-        CHECK.same("one is sealed, one open", x.open(0), 1);
-        x.abandon();
-        CHECK.same("both are open", x.open(0), 2);
-        CHECK.same("sealed no more", x.sealed(0), CheckpointedStream.NONE);
-        CHECK.same("the other's stays open", x.open(1), 1);
-        CHECK.same("the state stays", x.sum(0), 11);
-        CHECK.refused("commit what is sealed no more", Check.NOT_NOW, x, () -> x.commit(0));
-
-        x.beginCheckpoint();
-        Streams.sendAllBarriers(x);
-        x.pump(2);
-        CHECK.same("the next one is complete", x.complete(), 2);
-        CHECK.same("it has all of them", x.commit(0), 2);
-        CHECK.same("their sums too", x.committedSum(0), 11);
-    }
-
-    private static void abandonKeepsTheLatestComplete() {
-        CheckpointedStream x = Streams.withCommittedCheckpoint();
-        x.append(0, 1, 60);
-        x.pump(1);
-        x.beginCheckpoint();
-        Streams.sendAllBarriers(x);
-        Streams.takeFromAll(x, 0);
-        CHECK.same("abandon the second", x.abandon(), 2);
-        CHECK.same("complete", x.complete(), 1);
-        CHECK.same("keptOffset(0)", x.keptOffset(0), 1);
-        CHECK.same("keptSum(1)", x.keptSum(1), 30);
-        CHECK.same("crash goes back to it", x.crash(), 1);
-        CHECK.same("sum(1)", x.sum(1), 30);
-    }
-
-    private static void crashWithoutCheckpoint() {
-        CheckpointedStream x = new CheckpointedStream();
-        CHECK.same("crash a new one", x.crash(), 0);
-        x.append(0, 0, 5);
-        x.append(0, 0, 6);
-        x.append(0, 4, 7);
-        x.pump(1);
-        x.read(0);
-        CHECK.same("crash", x.crash(), 0);
-        CHECK.same("the row stays", x.events(0), 3);
-        CHECK.same("the reader stands at 0", x.offset(0), 0);
-        CHECK.same("channels are empty", x.queued(0, 0), 0);
-        CHECK.same("count(0)", x.count(0), 0);
-        CHECK.same("sum(0)", x.sum(0), 0);
-        CHECK.same("open(0)", x.open(0), 0);
-        CHECK.same("complete", x.complete(), CheckpointedStream.NONE);
-        x.pump(4);
-        CHECK.same("it goes on from there", x.sum(0), 11);
-    }
-
-    private static void crashCommitsTheSealed() {
-        CheckpointedStream x = Streams.withCompleteCheckpoint();
-        x.append(0, 1, 50);
-        x.append(3, 5, 8);
-        x.append(3, 5, 9);
-        x.pump(1);
-        x.read(3);
-        x.commit(0);
-        CHECK.same("crash", x.crash(), 1);
-        CHECK.same("committedSum(1)", x.committedSum(1), 30);
-        CHECK.same("the sealed one of the other too", x.committedSum(4), 7);
-        CHECK.same("committed", x.committed(), 3);
-        CHECK.same("sealed(0)", x.sealed(0), CheckpointedStream.NONE);
-        CHECK.same("sealed(1)", x.sealed(1), CheckpointedStream.NONE);
-        CHECK.same("open ones are lost", x.open(0) + x.open(1), 0);
-        CHECK.same("kept count", x.count(1), 2);
-        CHECK.same("kept sum", x.sum(1), 30);
-        CHECK.same("what was not kept is gone", x.count(5) + x.sum(5), 0);
-        CHECK.same("the reader stands where it kept", x.offset(0), 1);
-        CHECK.same("the other reader too", x.offset(3), 0);
-        CHECK.same("channels are empty", x.queued(3, 1), 0);
-        CHECK.same("crash again", x.crash(), 1);
-        CHECK.same("nothing is committed twice", x.committed(), 3);
-        CHECK.same("begin is open to it", x.beginCheckpoint(), 2);
-    }
-
-    private static void crashLosesWhatIsUnderWay() {
-        CheckpointedStream x = Streams.withCommittedCheckpoint();
-        x.append(0, 1, 50);
-        x.pump(1);
-        x.beginCheckpoint();
-        Streams.sendAllBarriers(x);
-        Streams.takeFromAll(x, 0);
-        x.take(1, 0);
-        CHECK.same("crash", x.crash(), 1);
-        CHECK.same("none under way", x.underWay(), CheckpointedStream.NONE);
-        CHECK.same("its sealed transaction is lost", x.committedSum(1), 30);
-        CHECK.same("sealed(0)", x.sealed(0), CheckpointedStream.NONE);
-        CHECK.same("open(0)", x.open(0), 0);
-        CHECK.no("nothing is blocked", x.isBlocked(0, 1));
-        CHECK.no("hasSent(0)", x.hasSent(0));
-        CHECK.same("its offset is not kept", x.offset(0), 1);
-        CHECK.same("its state is not kept", x.sum(1), 30);
-        x.pump(1);
-        x.beginCheckpoint();
-        Streams.sendAllBarriers(x);
-        x.pump(1);
-        CHECK.same("the next transaction has the event once", x.commit(0), 1);
-        CHECK.same("and its value once", x.committedSum(1), 80);
-
-        CheckpointedStream first = new CheckpointedStream();
-        first.append(0, 0, 5);
-        first.pump(1);
-        first.beginCheckpoint();
-        Streams.sendAllBarriers(first);
-        Streams.takeFromAll(first, 0);
-        CHECK.same("crash ahead of the first complete", first.crash(), 0);
-        CHECK.same("nothing is committed", first.committed(), 0);
-        CHECK.same("offset(0)", first.offset(0), 0);
-        CHECK.same("sum(0)", first.sum(0), 0);
-    }
-
-    private static void crashKeepsNumbers() {
-        CheckpointedStream x = new CheckpointedStream();
-        x.beginCheckpoint();
-        x.sendBarrier(0);
         x.crash();
-        CHECK.same("the number is not used again", x.beginCheckpoint(), 2);
-        CHECK.no("no barrier of it is sent", x.hasSent(0));
-        x.rescale(3);
-        CHECK.same("nor after rescale", x.beginCheckpoint(), 3);
-        Streams.sendAllBarriers(x);
-        x.pump(1);
-        CHECK.same("three workers complete it", x.complete(), 3);
-        CHECK.same("crash", x.crash(), 3);
+        CHECK.same("crashed", x.underWay(), CheckpointedStream.NONE);
+        x.beginCheckpoint();
+        x.rescale(2);
+        CHECK.same("rescaled", x.underWay(), CheckpointedStream.NONE);
     }
 
-    private static void rescaleCountsGroups() {
-        int[][] moved = {
-            {0, 4, 5, 6},
-            {4, 0, 3, 6},
-            {5, 3, 0, 5},
-            {6, 6, 5, 0},
-        };
-        for (int from = 1; from <= 4; from++) {
-            for (int to = 1; to <= 4; to++) {
-                CheckpointedStream x = new CheckpointedStream();
-                x.rescale(from);
-                CHECK.same("rescale from " + from + " to " + to, x.rescale(to), moved[from - 1][to - 1]);
-                CHECK.same("workers", x.workers(), to);
+    private static void latestComplete() {
+        CheckpointedStream x = new CheckpointedStream();
+        for (int number = 2; number <= 6; number += 2) {
+            x.beginCheckpoint();
+            x.abandon();
+            Streams.completeCheckpoint(x);
+            CHECK.same("complete", x.complete(), number);
+            Streams.commitAll(x);
+            CHECK.same("complete when committed", x.complete(), number);
+        }
+        x.beginCheckpoint();
+        CHECK.same("another under way", x.complete(), 6);
+        x.abandon();
+        CHECK.same("another abandoned", x.complete(), 6);
+        x.crash();
+        CHECK.same("crashed", x.complete(), 6);
+        x.rescale(3);
+        CHECK.same("rescaled", x.complete(), 6);
+    }
+
+    private static void noneComplete() {
+        CheckpointedStream x = Streams.withEventsTaken(2);
+        CHECK.same("none begun", x.complete(), CheckpointedStream.NONE);
+        Streams.beginAndSend(x);
+        Streams.takeFromAll(x, 0);
+        CHECK.same("under way", x.complete(), CheckpointedStream.NONE);
+        x.abandon();
+        CHECK.same("abandoned", x.complete(), CheckpointedStream.NONE);
+        x.beginCheckpoint();
+        x.crash();
+        CHECK.same("crashed", x.complete(), CheckpointedStream.NONE);
+        x.rescale(4);
+        CHECK.same("rescaled", x.complete(), CheckpointedStream.NONE);
+    }
+
+    private static void sentByThatReader() {
+        for (int sending = 0; sending < 4; sending++) {
+            CheckpointedStream x = Streams.withCommittedCheckpoint();
+            x.beginCheckpoint();
+            x.sendBarrier(sending);
+            for (int partition = 0; partition < 4; partition++) {
+                CHECK.same("hasSent", x.hasSent(partition) ? 1 : 0, partition == sending ? 1 : 0);
             }
+            x.pump(3);
+            CHECK.yes("its barriers are taken", x.hasSent(sending));
         }
     }
 
-    private static void rescaleStartsAgain() {
-        CheckpointedStream x = Streams.withCompleteCheckpoint();
-        x.append(0, 1, 50);
-        x.append(0, 1, 51);
-        x.pump(1);
-        x.read(0);
-        CHECK.same("rescale to one", x.rescale(1), 4);
-        CHECK.same("both transactions are committed", x.committed(), 3);
-        CHECK.same("committedSum(4)", x.committedSum(4), 7);
-        CHECK.same("sealed(0)", x.sealed(0), CheckpointedStream.NONE);
-        CHECK.same("open(0)", x.open(0), 0);
-        CHECK.same("sum(1)", x.sum(1), 30);
-        CHECK.same("sum(4)", x.sum(4), 7);
-        CHECK.same("offset(0)", x.offset(0), 1);
-        CHECK.same("queued(0, 0)", x.queued(0, 0), 0);
-        CHECK.same("complete", x.complete(), 1);
-        CHECK.same("keptOffset(2)", x.keptOffset(2), 1);
-        x.append(3, 4, 3);
-        x.pump(2);
-        CHECK.same("the one worker has all keys", x.open(0), 3);
-        CHECK.same("sum(4) goes on", x.sum(4), 10);
-
-        CheckpointedStream same = Streams.withCommittedCheckpoint();
-        same.append(0, 1, 50);
-        same.pump(1);
-        same.beginCheckpoint();
-        Streams.sendAllBarriers(same);
-        CHECK.same("rescale to as many", same.rescale(2), 0);
-        CHECK.same("starts again too", same.offset(0), 1);
-        CHECK.same("sum(1)", same.sum(1), 30);
-        CHECK.same("underWay", same.underWay(), CheckpointedStream.NONE);
-    }
-
-    private static void rescaleRefuses() {
-        CheckpointedStream x = Streams.withCompleteCheckpoint();
-        CHECK.refused("rescale 0", Check.OUT_OF_RANGE, x, () -> x.rescale(0));
-        CHECK.refused("rescale 5", Check.OUT_OF_RANGE, x, () -> x.rescale(5));
-        CHECK.refused("rescale -1", Check.OUT_OF_RANGE, x, () -> x.rescale(-1));
-        CHECK.refused("rescale least", Check.OUT_OF_RANGE, x, () -> x.rescale(Integer.MIN_VALUE));
-        CHECK.refused("rescale largest", Check.OUT_OF_RANGE, x, () -> x.rescale(Integer.MAX_VALUE));
-    }
-
-    private static void eachEventCountsOnce() {
+    private static void sentForNone() {
         CheckpointedStream x = new CheckpointedStream();
-        for (int i = 0; i < 20; i++) {
-            x.append(i % 4, i, i + 1);
+        CheckpointedStream complete = Streams.withCompleteCheckpoint();
+        CheckpointedStream abandoned = Streams.withCheckpointUnderWay();
+        abandoned.abandon();
+        CheckpointedStream crashed = Streams.withCheckpointUnderWay();
+        crashed.crash();
+        CheckpointedStream rescaled = Streams.withCheckpointUnderWay();
+        rescaled.rescale(3);
+        for (int partition = 0; partition < 4; partition++) {
+            CHECK.no("new", x.hasSent(partition));
+            CHECK.no("complete", complete.hasSent(partition));
+            CHECK.no("abandoned", abandoned.hasSent(partition));
+            CHECK.no("crashed", crashed.hasSent(partition));
+            CHECK.no("rescaled", rescaled.hasSent(partition));
         }
-        x.pump(2);
-        x.beginCheckpoint();
-        Streams.sendAllBarriers(x);
-        x.pump(2);
-        x.crash();
-        x.pump(1);
-        x.rescale(3);
+    }
+
+    private static void offsetKept() {
+        CheckpointedStream x = new CheckpointedStream();
+        for (int partition = 0; partition < 4; partition++) {
+            Streams.append(x, partition, 0, 1, 60);
+        }
+        for (int round = 1; round <= 3; round++) {
+            for (int partition = 0; partition < 4; partition++) {
+                for (int i = 0; i <= partition; i++) {
+                    x.read(partition);
+                    x.take(0, partition);
+                }
+            }
+            Streams.completeCheckpoint(x);
+            Streams.commitAll(x);
+            x.read(0);
+            for (int partition = 0; partition < 4; partition++) {
+                CHECK.same("keptOffset", x.keptOffset(partition), round * (partition + 1));
+            }
+            x.crash();
+        }
         x.pump(20);
-        x.beginCheckpoint();
-        Streams.sendAllBarriers(x);
+        x.pump(20);
+        x.pump(20);
+        Streams.completeCheckpoint(x);
+        CHECK.same("the largest", x.keptOffset(3), 60);
+    }
+
+    private static void noOffsetKept() {
+        CheckpointedStream x = Streams.withEventsTaken(4);
+        Streams.beginAndSend(x);
+        for (int partition = 0; partition < 4; partition++) {
+            CHECK.same("under way", x.keptOffset(partition), 0);
+        }
+        x.abandon();
+        for (int partition = 0; partition < 4; partition++) {
+            CHECK.same("abandoned", x.keptOffset(partition), 0);
+        }
+    }
+
+    private static void offsetUnderWay() {
+        CheckpointedStream x = Streams.withCheckpointUnderWay();
+        CHECK.same("under way", x.keptOffset(0), 1);
+        CHECK.same("under way", x.keptOffset(1), 1);
         x.pump(20);
         CHECK.same("complete", x.complete(), 2);
-        x.rescale(4);
-        CHECK.same("committed", x.committed(), 20);
-        for (int key = 0; key < 20; key++) {
-            CHECK.same("committedCount(" + key + ")", x.committedCount(key), 1);
-            CHECK.same("committedSum(" + key + ")", x.committedSum(key), key + 1);
+        CHECK.same("complete", x.keptOffset(0), 2);
+        CHECK.same("complete", x.keptOffset(1), 2);
+        CHECK.same("complete", x.keptOffset(2), 1);
+        CHECK.same("complete", x.keptOffset(3), 0);
+    }
+
+    private static void sumKept() {
+        for (int workers = 1; workers <= 4; workers++) {
+            CheckpointedStream x = Streams.ofWorkers(workers);
+            for (int key = 0; key < 32; key++) {
+                x.append(key % 4, key, 100 - key);
+            }
+            x.pump(20);
+            Streams.completeCheckpoint(x);
+            Streams.commitAll(x);
+            x.append(0, 5, 100);
+            x.append(1, 0, 100);
+            x.pump(1);
+            for (int key = 0; key < 32; key++) {
+                CHECK.same("keptSum(" + key + ")", x.keptSum(key), 100 - key);
+            }
+            Streams.completeCheckpoint(x);
+            CHECK.same("keptSum(5) of the next", x.keptSum(5), 195);
+            CHECK.same("keptSum(0) of the next", x.keptSum(0), 200);
+            CHECK.same("keptSum(1) of the next", x.keptSum(1), 99);
         }
+    }
+
+    private static void noSumKept() {
+        CheckpointedStream x = Streams.withEventsTaken(2);
+        Streams.beginAndSend(x);
+        Streams.takeFromAll(x, 0);
+        CHECK.same("under way", x.keptSum(0), 0);
+        x.abandon();
+        CHECK.same("abandoned", x.keptSum(0), 0);
+        CHECK.same("abandoned", x.keptSum(4), 0);
+    }
+
+    private static void sumUnderWay() {
+        CheckpointedStream x = Streams.withCheckpointUnderWay();
+        CHECK.same("under way", x.keptSum(1), 30);
+        CHECK.same("under way", x.keptSum(4), 7);
+        x.pump(20);
+        CHECK.same("complete", x.keptSum(1), 80);
+        CHECK.same("complete", x.keptSum(4), 67);
+        CHECK.same("behind its barrier", x.keptSum(2), 0);
+        CHECK.same("behind its barrier", x.keptSum(7), 0);
     }
 }
