@@ -75,13 +75,6 @@ final class Check {
         }
     }
 
-    void different(String what, String one, String other) {
-        made++;
-        if (one.equals(other)) {
-            tell(what + ": both are\n  " + one);
-        }
-    }
-
     void throwsIt(String what, Class<? extends RuntimeException> due, Call call) {
         sameText(what, thrownBy(call), due.getSimpleName());
     }
@@ -108,7 +101,8 @@ final class Check {
     }
 
     /** The argument is taken from the least to the largest, and refused next to them and far away. */
-    void takenFromTo(String what, int least, int largest, Class<? extends RuntimeException> due, Make make, UseOf call) {
+    void takenFromTo(String what, int least, int largest, Class<? extends RuntimeException> due, Make make,
+            UseOf call) {
         for (int argument = least; argument <= largest; argument++) {
             int taken = argument;
             CheckpointedStream x = make.make();

@@ -21,12 +21,6 @@ final class CommitTest {
         CHECK.finish();
     }
 
-    private static CheckpointedStream complete(int workers) {
-        CheckpointedStream x = Streams.withEventsTaken(workers);
-        Streams.completeCheckpoint(x);
-        return x;
-    }
-
     private static void returnsTheCounts() {
         CheckpointedStream x = Streams.withCompleteCheckpoint();
         CHECK.same("two events of one key", x.commit(0), 2);
@@ -42,7 +36,7 @@ final class CommitTest {
     }
 
     private static void addsToTheSink() {
-        CheckpointedStream x = complete(2);
+        CheckpointedStream x = Streams.completeOf(2);
         Streams.commitAll(x);
         x.append(0, 0, 7);
         x.append(0, 24, 8);
@@ -60,7 +54,7 @@ final class CommitTest {
     private static void thatWorkerAlone() {
         for (int workers = 1; workers <= 4; workers++) {
             for (int worker = 0; worker < workers; worker++) {
-                CheckpointedStream x = complete(workers);
+                CheckpointedStream x = Streams.completeOf(workers);
                 CHECK.same("commit", x.commit(worker), 3);
                 CHECK.same("committed", x.committed(), 3);
                 for (int other = 0; other < workers; other++) {
@@ -75,7 +69,7 @@ final class CommitTest {
     }
 
     private static void notTheOpen() {
-        CheckpointedStream x = complete(2);
+        CheckpointedStream x = Streams.completeOf(2);
         x.append(0, 0, 50);
         x.pump(1);
         CHECK.same("commit", x.commit(0), 3);
@@ -84,7 +78,7 @@ final class CommitTest {
     }
 
     private static void sealedNoMore() {
-        CheckpointedStream x = complete(3);
+        CheckpointedStream x = Streams.completeOf(3);
         x.commit(2);
         CHECK.same("sealed(2)", x.sealed(2), CheckpointedStream.NONE);
         CHECK.same("sealed(0)", x.sealed(0), 1);
@@ -107,7 +101,7 @@ final class CommitTest {
     private static void anyOrder() {
         for (int workers = 1; workers <= 4; workers++) {
             for (int first = 0; first < workers; first++) {
-                CheckpointedStream x = complete(workers);
+                CheckpointedStream x = Streams.completeOf(workers);
                 for (int i = 1; i <= workers; i++) {
                     CHECK.same("commit", x.commit((first + workers - i) % workers), 3);
                     CHECK.same("committed", x.committed(), 3 * i);
@@ -117,7 +111,7 @@ final class CommitTest {
     }
 
     private static void allElseStays() {
-        CheckpointedStream x = complete(2);
+        CheckpointedStream x = Streams.completeOf(2);
         Streams.fill(x, 0, 0, 2);
         x.commit(0);
         CHECK.same("complete", x.complete(), 1);
@@ -131,7 +125,7 @@ final class CommitTest {
     }
 
     private static void nextTransaction() {
-        CheckpointedStream x = complete(1);
+        CheckpointedStream x = Streams.completeOf(1);
         x.commit(0);
         for (int number = 2; number <= 5; number++) {
             Streams.append(x, 3, 7, number, number);
@@ -151,7 +145,7 @@ final class CommitTest {
                 CHECK.refused("nothing taken", Check.NOT_NOW, () -> Streams.ofWorkers(n), x -> x.commit(w));
                 CHECK.refused("open alone", Check.NOT_NOW, () -> Streams.withEventsTaken(n), x -> x.commit(w));
                 CHECK.refused("started again", Check.NOT_NOW, () -> {
-                    CheckpointedStream x = complete(n);
+                    CheckpointedStream x = Streams.completeOf(n);
                     x.crash();
                     return x;
                 }, x -> x.commit(w));
@@ -176,7 +170,7 @@ final class CommitTest {
         for (int worker = 0; worker < 3; worker++) {
             int w = worker;
             CHECK.refused("twice", Check.NOT_NOW, () -> {
-                CheckpointedStream x = complete(3);
+                CheckpointedStream x = Streams.completeOf(3);
                 x.commit(w);
                 return x;
             }, x -> x.commit(w));
@@ -214,7 +208,8 @@ final class CommitTest {
     private static void noSuchWorker() {
         for (int workers = 1; workers <= 4; workers++) {
             int n = workers;
-            CHECK.takenFromTo("worker", 0, n - 1, Check.NO_SUCH, () -> complete(n), CheckpointedStream::commit);
+            CHECK.takenFromTo("worker", 0, n - 1, Check.NO_SUCH, () -> Streams.completeOf(n),
+                    CheckpointedStream::commit);
         }
     }
 
@@ -223,7 +218,7 @@ final class CommitTest {
         CHECK.refused("none sealed", Check.NO_SUCH, CheckpointedStream::new, x -> x.commit(-1));
         CHECK.refused("not complete", Check.NO_SUCH, Streams::withCheckpointUnderWay, x -> x.commit(2));
         CHECK.refused("a worker that is gone", Check.NO_SUCH, () -> {
-            CheckpointedStream x = complete(4);
+            CheckpointedStream x = Streams.completeOf(4);
             x.rescale(2);
             return x;
         }, x -> x.commit(2));

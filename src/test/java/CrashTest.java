@@ -25,12 +25,6 @@ final class CrashTest {
         CHECK.finish();
     }
 
-    private static CheckpointedStream complete(int workers) {
-        CheckpointedStream x = Streams.withEventsTaken(workers);
-        Streams.completeCheckpoint(x);
-        return x;
-    }
-
     private static CheckpointedStream crashed(CheckpointedStream x) {
         x.crash();
         return x;
@@ -64,7 +58,7 @@ final class CrashTest {
 
     private static void commitsTheSealed() {
         for (int workers = 1; workers <= 4; workers++) {
-            CheckpointedStream x = crashed(complete(workers));
+            CheckpointedStream x = crashed(Streams.completeOf(workers));
             CHECK.same("committed", x.committed(), 3 * workers);
             for (int worker = 0; worker < workers; worker++) {
                 CHECK.same("sealed", x.sealed(worker), CheckpointedStream.NONE);
@@ -78,7 +72,7 @@ final class CrashTest {
 
     private static void commitsOnce() {
         for (int code = 0; code < 8; code++) {
-            CheckpointedStream x = complete(3);
+            CheckpointedStream x = Streams.completeOf(3);
             for (int worker = 0; worker < 3; worker++) {
                 if ((code >> worker & 1) == 1) {
                     x.commit(worker);
@@ -122,18 +116,40 @@ final class CrashTest {
         CHECK.same("what was read again, once", x.commit(0), 3);
         CHECK.same("committedSum then", x.committedSum(1), 113);
 
-        CheckpointedStream first = Streams.withEventsTaken(2);
-        Streams.beginAndSend(first);
-        Streams.takeFromAll(first, 1);
-        first.crash();
-        CHECK.same("sealed ahead of the first complete one", first.committed(), 0);
-        CHECK.same("sealed", first.sealed(1), CheckpointedStream.NONE);
-        CHECK.same("open", first.open(1), 0);
+        for (int workers = 1; workers <= 4; workers++) {
+            for (int sealed = 0; sealed < workers; sealed++) {
+                losesWithSealed(workers, sealed, false);
+                losesWithSealed(workers, sealed, true);
+            }
+        }
+    }
+
+    /** So many workers have sealed theirs when all starts again, ahead of the first complete one or behind it. */
+    private static void losesWithSealed(int workers, int sealed, boolean behindComplete) {
+        CheckpointedStream x = behindComplete ? Streams.completeOf(workers) : Streams.withEventsTaken(workers);
+        if (behindComplete) {
+            Streams.commitAll(x);
+            Streams.append(x, 3, 0, 9, 2);
+            x.pump(2);
+        }
+        Streams.beginAndSend(x);
+        for (int worker = 0; worker < sealed; worker++) {
+            Streams.takeFromAll(x, worker);
+        }
+        CHECK.same("crash", x.crash(), behindComplete ? 1 : 0);
+        CHECK.same("committed", x.committed(), behindComplete ? 3 * workers : 0);
+        CHECK.same("committedSum", x.committedSum(0), behindComplete ? 30 : 0);
+        for (int worker = 0; worker < workers; worker++) {
+            CHECK.same("sealed(" + worker + ")", x.sealed(worker), CheckpointedStream.NONE);
+            CHECK.same("open(" + worker + ")", x.open(worker), 0);
+        }
+        Streams.completeCheckpoint(x);
+        CHECK.same("nothing of them is sealed later", x.commit(0), 0);
     }
 
     private static void losesTheOpen() {
         for (int workers = 1; workers <= 4; workers++) {
-            CheckpointedStream x = complete(workers);
+            CheckpointedStream x = Streams.completeOf(workers);
             for (int worker = 0; worker < workers; worker++) {
                 Streams.fill(x, worker, Streams.keyOf(workers, worker, 0), 2);
                 Streams.take(x, worker, worker, 2);
@@ -298,7 +314,7 @@ final class CrashTest {
 
     private static void workersStay() {
         for (int workers = 1; workers <= 4; workers++) {
-            CHECK.same("workers", crashed(complete(workers)).workers(), workers);
+            CHECK.same("workers", crashed(Streams.completeOf(workers)).workers(), workers);
         }
     }
 

@@ -51,10 +51,11 @@ final class FaceTest {
 
     public static void main(String[] args) {
         Class<CheckpointedStream> face = CheckpointedStream.class;
-        CHECK.same("public and final", face.getModifiers(), Modifier.PUBLIC | Modifier.FINAL);
-        methods(face);
-        constantsAndFields(face);
-        constructors(face);
+        CHECK.sentence("the class is public and final", () -> CHECK.same("modifiers", face.getModifiers(),
+                Modifier.PUBLIC | Modifier.FINAL));
+        CHECK.sentence("the methods are those of the document, with their throws", () -> methods(face));
+        CHECK.sentence("NONE is the one constant, and no field is seen", () -> constantsAndFields(face));
+        CHECK.sentence("there is one constructor", () -> constructors(face));
         CHECK.finish();
     }
 

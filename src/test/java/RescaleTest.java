@@ -28,12 +28,6 @@ final class RescaleTest {
         CHECK.finish();
     }
 
-    private static CheckpointedStream complete(int workers) {
-        CheckpointedStream x = Streams.withEventsTaken(workers);
-        Streams.completeCheckpoint(x);
-        return x;
-    }
-
     private static CheckpointedStream rescaled(CheckpointedStream x, int workers) {
         x.rescale(workers);
         return x;
@@ -118,7 +112,7 @@ final class RescaleTest {
     private static void commitsTheSealed() {
         for (int from = 1; from <= 4; from++) {
             for (int to = 1; to <= 4; to++) {
-                CheckpointedStream x = complete(from);
+                CheckpointedStream x = Streams.completeOf(from);
                 x.commit(0);
                 x.rescale(to);
                 CHECK.same("committed", x.committed(), 3 * from);
@@ -183,7 +177,7 @@ final class RescaleTest {
     private static void keptGoToTheWorkers() {
         for (int from = 1; from <= 4; from++) {
             for (int to = 1; to <= 4; to++) {
-                CheckpointedStream x = rescaled(complete(from), to);
+                CheckpointedStream x = rescaled(Streams.completeOf(from), to);
                 for (int worker = 0; worker < from; worker++) {
                     int key = Streams.keyOf(from, worker, 0);
                     CHECK.same("count", x.count(key), 2);
@@ -201,7 +195,7 @@ final class RescaleTest {
     private static void noTransactions() {
         for (int from = 1; from <= 4; from++) {
             for (int to = 1; to <= 4; to++) {
-                CheckpointedStream x = rescaled(complete(from), to);
+                CheckpointedStream x = rescaled(Streams.completeOf(from), to);
                 for (int worker = 0; worker < to; worker++) {
                     int w = worker;
                     CHECK.same("open", x.open(w), 0);
@@ -216,7 +210,7 @@ final class RescaleTest {
     private static void checkpointsGoOn() {
         for (int from = 1; from <= 4; from++) {
             for (int to = 1; to <= 4; to++) {
-                CheckpointedStream x = rescaled(complete(from), to);
+                CheckpointedStream x = rescaled(Streams.completeOf(from), to);
                 int key = Streams.keyOf(to, to - 1, 3);
                 x.append(3, key, 9);
                 x.pump(20);

@@ -89,6 +89,13 @@ final class Streams {
         return x;
     }
 
+    /** The stream above; the checkpoint 1 is complete and nothing of it is committed. */
+    static CheckpointedStream completeOf(int workers) {
+        CheckpointedStream x = withEventsTaken(workers);
+        completeCheckpoint(x);
+        return x;
+    }
+
     /**
      * Two workers; the checkpoint 1 is complete and nothing of it is committed. Key 1 of worker 0
      * has kept count 2 and sum 30, key 4 of worker 1 has kept count 1 and sum 7.

@@ -299,55 +299,53 @@ final class TakeTest {
         }
     }
 
+    private static CheckpointedStream withAbandonedBarriers() {
+        CheckpointedStream x = Streams.withEventsTaken(2);
+        Streams.beginAndSend(x);
+        x.abandon();
+        return x;
+    }
+
+    private static CheckpointedStream abandonedWithoutBarriers() {
+        CheckpointedStream x = Streams.withEventsTaken(2);
+        x.beginCheckpoint();
+        x.abandon();
+        return x;
+    }
+
     private static void abandonedBarrier() {
         for (int partition = 0; partition < 4; partition++) {
             for (int worker = 0; worker < 2; worker++) {
-                CheckpointedStream x = Streams.withEventsTaken(2);
-                Streams.beginAndSend(x);
-                x.abandon();
+                CheckpointedStream x = withAbandonedBarriers();
                 CHECK.same("take", x.take(worker, partition), 0);
                 CHECK.no("isBlocked", x.isBlocked(partition, worker));
                 CHECK.same("queued", x.queued(partition, worker), 0);
             }
         }
-        CheckpointedStream all = Streams.withEventsTaken(2);
-        Streams.beginAndSend(all);
-        all.abandon();
-        Streams.takeFromAll(all, 0);
-        Streams.takeFromAll(all, 1);
+        Check.Make taken = () -> {
+            CheckpointedStream x = withAbandonedBarriers();
+            Streams.takeFromAll(x, 0);
+            Streams.takeFromAll(x, 1);
+            return x;
+        };
+        CheckpointedStream all = taken.make();
         CHECK.same("sealed", all.sealed(0), CheckpointedStream.NONE);
         CHECK.same("complete", all.complete(), CheckpointedStream.NONE);
         CHECK.same("open", all.open(0), 3);
         CHECK.same("keptSum", all.keptSum(0), 0);
-        CHECK.sameAs("as if there had been no barriers, but for the number", () -> {
-            CheckpointedStream x = Streams.withEventsTaken(2);
-            Streams.beginAndSend(x);
-            x.abandon();
-            Streams.takeFromAll(x, 0);
-            Streams.takeFromAll(x, 1);
-            return x;
-        }, () -> {
-            CheckpointedStream x = Streams.withEventsTaken(2);
-            x.beginCheckpoint();
-            x.abandon();
-            return x;
-        });
+        CHECK.sameAs("as if there had been no barriers", taken, TakeTest::abandonedWithoutBarriers);
     }
 
     private static void abandonedWhileAnother() {
         CHECK.sameAs("as if there had been no barriers", () -> {
-            CheckpointedStream x = Streams.withEventsTaken(2);
-            Streams.beginAndSend(x);
-            x.abandon();
+            CheckpointedStream x = withAbandonedBarriers();
             x.beginCheckpoint();
             x.sendBarrier(1);
             Streams.takeFromAll(x, 0);
             Streams.takeFromAll(x, 1);
             return x;
         }, () -> {
-            CheckpointedStream x = Streams.withEventsTaken(2);
-            x.beginCheckpoint();
-            x.abandon();
+            CheckpointedStream x = abandonedWithoutBarriers();
             x.beginCheckpoint();
             x.sendBarrier(1);
             return x;
